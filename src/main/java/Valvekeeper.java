@@ -30,7 +30,7 @@ public final class Valvekeeper {
     private final ArrayList<Junction> junctions = new ArrayList<Junction>();
     private final ArrayList<Tank> tanks = new ArrayList<Tank>();
     private final ArrayList<Pipe> pipes = new ArrayList<Pipe>();
-    /** The ends of all pipes: that of pipe p stands at 2 * p, its second one at 2 * p + 1. */
+    /** The ends of all pipes: the first one of pipe p stands at 2 * p, its second one at 2 * p + 1. */
     private final ArrayList<End> ends = new ArrayList<End>();
     private final Search search = new Search();
     private final int[] pattern = new int[DAY];
@@ -298,8 +298,7 @@ public final class Valvekeeper {
     /** Returns a valve of this set: 2 times its pipe, plus 1 if it is at the second end. */
     public int toShutAt(int pipe, int index)
             throws IndexOutOfBoundsException, NoSuchElementException, IllegalArgumentException {
-        int size = setSize(pipe);
-        needWithin(index, 0, size - 1);
+        setSize(pipe);
         int ahead = 0;
         for (int i = 0; i < ends.size(); i++) {
             if (ends.get(i).isChosen) {
@@ -481,14 +480,12 @@ public final class Valvekeeper {
     }
 
     private End valveAt(int pipe, boolean atSecond) {
-        if (pipe < 0 || pipe >= pipes.size()) {
-            throw new IndexOutOfBoundsException("no such pipe");
-        }
-        int place = 2 * pipe + (atSecond ? 1 : 0);
-        if (place >= ends.size() || !ends.get(place).hasValve) {
+        ArrayList<End> both = pipeAt(pipe).ends;
+        int place = atSecond ? 1 : 0;
+        if (place >= both.size() || !both.get(place).hasValve) {
             throw new NoSuchElementException("no valve at this end");
         }
-        return ends.get(place);
+        return both.get(place);
     }
 
     private void addEnd(Pipe pipe, Node node, boolean hasValve) {

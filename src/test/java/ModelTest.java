@@ -48,7 +48,8 @@ public final class ModelTest {
         try {
             return method.invoke(on, args);
         } catch (InvocationTargetException e) {
-            return e.getCause().getClass().getName();
+            boolean isOurs = on instanceof Model || Due.isThrownByCode(e.getCause());
+            return (isOurs ? "" : "the machine's ") + e.getCause().getClass().getName();
         } catch (IllegalAccessException e) {
             throw new IllegalStateException(e);
         }
