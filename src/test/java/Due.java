@@ -45,6 +45,10 @@ final class Due {
         }
     }
 
+    static int asked() {
+        return asked;
+    }
+
     static void end() {
         System.out.println(asked + " answers, " + wrong + " wrong");
         if (wrong != 0) {

@@ -16,7 +16,6 @@ import java.util.TreeSet;
 /** Holds the face against ../shared/DOC.md, and the source against those rules of LANGUAGE.md that a text shows. */
 public final class LanguageTest {
     private static final Path SOURCE = Path.of("src/main/java/Valvekeeper.java");
-    private static final Path DOCUMENT = Path.of("../shared/DOC.md");
     private static final Set<String> IMPORTS = Set.of("java.util.ArrayList", "java.util.Arrays", "java.util.List",
         "java.util.Iterator", "java.util.NoSuchElementException");
     private static final String[] WORDS = {"->", "::", "package ", "assert ", "synchronized", "finally", "catch",
@@ -40,7 +39,7 @@ public final class LanguageTest {
     /** "int pass(int) throws A,B", with the exceptions in the order of the document. */
     private static Set<String> faceOfDocument() throws IOException {
         Set<String> face = new TreeSet<>();
-        for (String line : Files.readAllLines(DOCUMENT)) {
+        for (String line : Document.lines()) {
             if (!line.startsWith("    public ") || !line.endsWith(";")) {
                 continue;
             }

@@ -1,0 +1,65 @@
+import java.lang.management.ManagementFactory;
+
+/**
+ * All calls of a run live in one room: calls make nothing, but for what is added to the net and for exceptions.
+ * An object of the greatest net, used for 512 calls, is counted here.
+ */
+public final class RoomTest {
+    private static final int CALLS = 512;
+    private static final long MOST_TO_BUILD = 64 * 1024;
+    private static final long MOST_TO_USE = 4 * 1024;
+
+    public static void main(String[] args) {
+        for (int i = 0; i < 3; i++) {
+            use(build());
+        }
+        long ahead = taken();
+        Valvekeeper x = build();
+        long built = taken() - ahead;
+        use(x);
+        long used = taken() - ahead - built;
+        Due.is("bytes to build the greatest net, " + built, true, () -> built <= MOST_TO_BUILD);
+        Due.is("bytes to use it, " + used, true, () -> used <= MOST_TO_USE);
+        Due.end();
+    }
+
+    private static long taken() {
+        return ((com.sun.management.ThreadMXBean) ManagementFactory.getThreadMXBean()).getCurrentThreadAllocatedBytes();
+    }
+
+    /** 40 calls: two tanks, 14 junctions in a ring, ways across it, and two pumps. */
+    private static Valvekeeper build() {
+        Valvekeeper x = new Valvekeeper();
+        x.tank(100, 50, 9999);
+        for (int i = 0; i < 14; i++) {
+            x.junction(i, 5);
+        }
+        x.tank(0, 50, 9999);
+        for (int i = 1; i <= 14; i++) {
+            x.pipe(i, i % 14 + 1, 5, i % 3 == 0 ? '>' : '-', 0, 3);
+        }
+        for (int i = 1; i <= 4; i++) {
+            x.pipe(0, i, 5, '-', 0, 3);
+            x.pipe(15, i + 7, 5, '-', 0, 3);
+        }
+        x.pipe(15, 1, 9, 'p', 99, 3);
+        x.pipe(15, 2, 9, 'p', 99, 3);
+        return x;
+    }
+
+    private static void use(Valvekeeper x) {
+        for (int i = 40; i < CALLS - 8; i += 8) {
+            int pipe = i / 8 % 24;
+            x.pass(1 + i % 24);
+            x.fire(1 + pipe % 14);
+            x.isTrue();
+            if (x.toShut(pipe) > 0) {
+                x.toShutAt(pipe, 0);
+            }
+            x.isCutOff(pipe % 16);
+            x.bill(1 + pipe % 14, i % 16 == 0);
+            x.valve(pipe, true, i % 64 == 0);
+        }
+        x.shut(4);
+    }
+}
