@@ -8,8 +8,10 @@ import java.nio.charset.StandardCharsets;
 import java.nio.file.Files;
 import java.nio.file.Path;
 import java.util.ArrayList;
+import java.util.HashMap;
 import java.util.HashSet;
 import java.util.List;
+import java.util.Map;
 import java.util.Set;
 import java.util.TreeSet;
 
@@ -28,6 +30,7 @@ public final class LanguageTest {
 
     public static void main(String[] args) throws IOException {
         face();
+        headings();
         hidden();
         sizes();
         words();
@@ -80,6 +83,31 @@ public final class LanguageTest {
         }
         Due.is("the face", faceOfDocument(), () -> face);
         Due.is("public and final", Modifier.PUBLIC | Modifier.FINAL, Valvekeeper.class::getModifiers);
+    }
+
+    /** "Ahead of the calls `a`, `b` the interface says: ---- net." holds for the source as well. */
+    private static void headings() throws IOException {
+        Map<String, String> headingOf = new HashMap<>();
+        String heading = "";
+        for (String line : Files.readAllLines(SOURCE)) {
+            String text = line.strip();
+            if (text.startsWith("// ---- ")) {
+                heading = text.substring(3);
+            } else if (text.startsWith("public ") && text.contains("(")) {
+                String ahead = text.substring(0, text.indexOf('('));
+                headingOf.put(ahead.substring(ahead.lastIndexOf(' ') + 1), heading);
+            }
+        }
+        for (String line : Document.lines()) {
+            if (line.startsWith("Ahead of the calls ")) {
+                String due = line.substring(line.indexOf("---- "), line.length() - 1);
+                String[] words = line.split("`");
+                for (int i = 1; i < words.length; i += 2) {
+                    String name = words[i];
+                    Due.is("ahead of " + name, due, () -> headingOf.getOrDefault(name, "nothing"));
+                }
+            }
+        }
     }
 
     private static void hidden() {

