@@ -39,8 +39,11 @@ public final class Valvekeeper {
     private int hoursGone;
     private int sweepsDone;
     private long pumpCost;
-    private long waterUsed;
+    private final Whole waterUsed = new Whole();
     private int turns;
+    /** For numbers on the way; no call finds anything of use in them. */
+    private final Whole sum = new Whole();
+    private final Whole part = new Whole();
 
     /** Creates a city without nodes and pipes, at the hour 0. */
     public Valvekeeper() {
@@ -210,12 +213,12 @@ public final class Valvekeeper {
 
     /** Returns the head of a node, as it was found last; of a tank, as it is now. */
     public int head(int node) throws IndexOutOfBoundsException {
-        return (int) nodeAt(node).head;
+        return nodeAt(node).head.nearestInt();
     }
 
     /** Returns what flowed in a pipe in the last hour, less than 0 toward its first node. */
     public int flow(int pipe) throws IndexOutOfBoundsException {
-        return (int) pipeAt(pipe).flowed;
+        return pipeAt(pipe).flowed.nearestInt();
     }
 
     /** Returns the sweeps of the last hour. */
@@ -230,13 +233,16 @@ public final class Valvekeeper {
 
     /** Returns the water of a tank. */
     public int water(int node) throws IndexOutOfBoundsException, UnsupportedOperationException {
-        return (int) tankAt(node).held;
+        return tankAt(node).held.nearestInt();
     }
 
     /** Returns what came to a junction in the last hour and is not accounted for; 0 for a tank. */
     public int excess(int node) throws IndexOutOfBoundsException {
         if (nodeAt(node) instanceof Junction asked) {
-            return (int) (asked.netInflow() - asked.got - asked.leaked);
+            sum.setTo(-asked.got);
+            sum.addTimes(asked.leaked, -1, 0);
+            asked.addInflowTo(sum);
+            return sum.nearestInt();
         }
         return 0;
     }
@@ -244,16 +250,10 @@ public final class Valvekeeper {
     /** Returns the age 'a', the chlorine 'c' or the foul 'f' of a node. */
     public int quality(int node, char what) throws IndexOutOfBoundsException, IllegalArgumentException {
         Mix asked = nodeAt(node).mix;
-        if (what == 'a') {
-            return (int) asked.age;
+        if (what != 'a' && what != 'c' && what != 'f') {
+            throw new IllegalArgumentException("no such thing of the quality");
         }
-        if (what == 'c') {
-            return (int) asked.chlorine;
-        }
-        if (what == 'f') {
-            return (int) asked.dirt;
-        }
-        throw new IllegalArgumentException("no such thing of the quality");
+        return asked.of(what);
     }
 
     /** Sets the foul of a tank; returns the one before. */
@@ -261,7 +261,7 @@ public final class Valvekeeper {
             throws IndexOutOfBoundsException, UnsupportedOperationException, IllegalArgumentException {
         Mix told = tankAt(node).mix;
         needWithin(part, 0, MOST_QUALITY);
-        int before = (int) told.dirt;
+        int before = told.dirt;
         told.dirt = part;
         return before;
     }
@@ -349,12 +349,13 @@ public final class Valvekeeper {
 
     /** Returns the reading of a meter. */
     public int reading(int node) throws IndexOutOfBoundsException, UnsupportedOperationException {
-        return (int) junctionAt(node).meter.total;
+        return junctionAt(node).meter.total;
     }
 
     /** Bills a junction by its meter, or by guess if that is not read. */
     public int bill(int node, boolean isRead) throws IndexOutOfBoundsException, UnsupportedOperationException {
-        return (int) junctionAt(node).meter.charge(isRead);
+        junctionAt(node).meter.charge(isRead, sum);
+        return sum.nearestInt();
     }
 
     /** Puts a junction into a district; returns the one before. */
@@ -370,20 +371,21 @@ public final class Valvekeeper {
     /** Returns what a district missed in the last hour. */
     public int missed(int district) throws IllegalArgumentException {
         needWithin(district, 0, DISTRICTS - 1);
-        long lost = 0;
+        sum.setTo(0);
         for (int i = 0; i < junctions.size(); i++) {
             Junction member = junctions.get(i);
             if (member.district == district) {
                 // What flows between two of the district is added here once and taken off once.
-                lost += member.netInflow() - member.meter.lastCount;
+                member.addInflowTo(sum);
+                sum.increaseBy(-member.meter.lastCount);
             }
         }
-        return (int) lost;
+        return sum.nearestInt();
     }
 
     /** Returns how much water was got and leaked in all. */
     public long used() {
-        return waterUsed;
+        return waterUsed.nearestLong();
     }
 
     /** Returns the share of junctions that were dry in the last hour. */
@@ -405,11 +407,12 @@ public final class Valvekeeper {
         if (junctions.isEmpty()) {
             throw new ArithmeticException("no junctions");
         }
-        long sum = 0;
+        sum.setTo(0);
         for (int i = 0; i < junctions.size(); i++) {
-            sum += nearestTens(junctions.get(i).pressure());
+            junctions.get(i).findTensOfPressure(part);
+            sum.addTimes(part, 1, 0);
         }
-        return (double) sum / (double) junctions.size();
+        return sum.nearestDouble() / (double) junctions.size();
     }
 
     /** Checks that each set to shut shuts its pipe off, and that none of its valves can be spared. */
@@ -517,10 +520,9 @@ public final class Valvekeeper {
             if (watched == null) {
                 continue;
             }
-            long level = watched.level();
-            if (level < pumped.lowMark) {
+            if (watched.isLevelBelow(pumped.lowMark)) {
                 pumped.isOn = true;
-            } else if (level > pumped.highMark) {
+            } else if (watched.isLevelAbove(pumped.highMark)) {
                 pumped.isOn = false;
             }
         }
@@ -542,9 +544,9 @@ public final class Valvekeeper {
     private int findHeads() {
         noteOpenPipes();
         int done = 0;
-        long change = 2;
-        while (done < MOST_SWEEPS && change > 1) {
-            change = sweepOnce();
+        boolean isDone = false;
+        while (done < MOST_SWEEPS && !isDone) {
+            isDone = !changesMuchBySweep();
             done++;
         }
         return done;
@@ -558,32 +560,31 @@ public final class Valvekeeper {
         }
     }
 
-    private long sweepOnce() {
-        long greatest = 0;
+    private boolean changesMuchBySweep() {
+        boolean changesMuch = false;
         for (int i = 0; i < junctions.size(); i++) {
             Junction junction = junctions.get(i);
-            long before = junction.head;
-            junction.head = junction.headByPipes();
-            greatest = Math.max(greatest, Math.abs(junction.head - before));
+            Whole before = junction.head;
+            junction.findHeadByPipes(sum);
+            changesMuch |= sum.isGreaterWith(-1, before) || before.isGreaterWith(-1, sum);
+            junction.head.setTo(sum);
         }
-        return greatest;
+        return changesMuch;
     }
 
     private void letWaterFlow() {
         for (int i = 0; i < pipes.size(); i++) {
-            Pipe pipe = pipes.get(i);
-            pipe.flowed = pipe.carries ? pipe.flowByHeads() : 0;
+            pipes.get(i).letFlow();
         }
     }
 
     private void giveToJunctions() {
         for (int i = 0; i < junctions.size(); i++) {
             Junction junction = junctions.get(i);
-            long pressure = junction.pressure();
-            junction.isDry = pressure < 0;
+            junction.isDry = junction.lacksPressure();
             junction.got = junction.isDry ? 0 : junction.demandNow;
-            junction.leaked = junction.isDry ? 0 : junction.leak * pressure / 10;
-            waterUsed += junction.got + junction.leaked;
+            junction.loseByLeak();
+            waterUsed.addTimes(junction.leaked, 1, junction.got);
         }
     }
 
@@ -600,15 +601,14 @@ public final class Valvekeeper {
 
     private void fillTanks() {
         for (int i = 0; i < tanks.size(); i++) {
-            Tank tank = tanks.get(i);
-            tank.hold(Math.max(0, tank.held + tank.netInflow()));
+            tanks.get(i).fill();
         }
     }
 
     /** In two rounds, as each junction gets what its neighbours had ahead of the hour. */
     private void mixWater() {
         for (int i = 0; i < junctions.size(); i++) {
-            junctions.get(i).mixInflow();
+            junctions.get(i).mixInflow(sum, part);
         }
         for (int i = 0; i < junctions.size(); i++) {
             Junction junction = junctions.get(i);
@@ -629,21 +629,21 @@ public final class Valvekeeper {
     private void keepHeads() {
         for (int i = 0; i < junctions.size(); i++) {
             Junction junction = junctions.get(i);
-            junction.kept = junction.head;
+            junction.kept.setTo(junction.head);
         }
     }
 
     private void bringHeadsBack() {
         for (int i = 0; i < junctions.size(); i++) {
             Junction junction = junctions.get(i);
-            junction.head = junction.kept;
+            junction.head.setTo(junction.kept);
         }
     }
 
     private void noteWhoIsDryAnyway() {
         for (int i = 0; i < junctions.size(); i++) {
             Junction junction = junctions.get(i);
-            junction.isDryAnyway = junction.pressure() < 0;
+            junction.isDryAnyway = junction.lacksPressure();
         }
     }
 
@@ -662,7 +662,7 @@ public final class Valvekeeper {
     private boolean isOneMoreDry() {
         for (int i = 0; i < junctions.size(); i++) {
             Junction junction = junctions.get(i);
-            if (junction.pressure() < 0 && !junction.isDryAnyway) {
+            if (junction.lacksPressure() && !junction.isDryAnyway) {
                 return true;
             }
         }
@@ -689,18 +689,6 @@ public final class Valvekeeper {
         return count;
     }
 
-    /** A half goes to the even neighbour, as Math.rint does it. */
-    private static long nearestTens(long value) {
-        long tens = Math.floorDiv(value, 10L);
-        long rest = Math.floorMod(value, 10L);
-        boolean isUp = rest > 5 || rest == 5 && Math.floorMod(tens, 2L) == 1;
-        return isUp ? tens + 1 : tens;
-    }
-
-    private static long dividedDown(long value, long by) {
-        return by == 0 ? 0 : Math.floorDiv(value, by);
-    }
-
     // ---- the net
 
     /** What hangs together by ends of pipes: a node or a pipe. */
@@ -713,41 +701,54 @@ public final class Valvekeeper {
     private abstract static class Node extends Place {
         final int height;
         final Mix mix;
-        long head;
+        final Whole head = new Whole();
 
         Node(int height, Mix mix) {
             this.height = height;
             this.mix = mix;
-            this.head = height;
+            head.setTo(height);
         }
 
-        /** What flowed in, less what flowed out, in the last hour. */
-        final long netInflow() {
-            long sum = 0;
+        /** Adds what flowed in, less what flowed out, in the last hour. */
+        final void addInflowTo(Whole sum) {
             for (int i = 0; i < ends.size(); i++) {
-                sum += ends.get(i).inflow();
+                End end = ends.get(i);
+                sum.addTimes(end.pipe.flowed, end.isSecond() ? 1 : -1, 0);
             }
-            return sum;
         }
     }
 
     private static final class Tank extends Node {
         final int area;
-        long held;
+        final Whole held = new Whole();
 
         Tank(int height, int area, int water) {
             super(height, new Mix(MOST_QUALITY));
             this.area = area;
-            hold(water);
+            held.setTo(water);
+            setHead();
         }
 
-        void hold(long water) {
-            held = water;
-            head = height + dividedDown(water, area);
+        void fill() {
+            addInflowTo(held);
+            if (held.isBelowZero()) {
+                held.setTo(0);
+            }
+            setHead();
         }
 
-        long level() {
-            return head - height;
+        private void setHead() {
+            head.setTo((long) height * area);
+            head.addTimes(held, 1, 0);
+            head.divideDown(area);
+        }
+
+        boolean isLevelBelow(int mark) {
+            return head.nearestLong() < (long) height + mark;
+        }
+
+        boolean isLevelAbove(int mark) {
+            return head.nearestLong() > (long) height + mark;
         }
     }
 
@@ -755,54 +756,92 @@ public final class Valvekeeper {
         final int demand;
         final Meter meter = new Meter();
         final Mix next = new Mix(0);
-        long kept;
+        final Whole kept = new Whole();
         int demandNow;
         int leak;
         int district;
         boolean isDry;
         boolean isDryAnyway;
-        long got;
-        long leaked;
+        int got;
+        final Whole leaked = new Whole();
 
         Junction(int height, int demand) {
             super(height, new Mix(0));
             this.demand = demand;
         }
 
-        long pressure() {
-            return head - height;
+        boolean lacksPressure() {
+            return head.nearestLong() < height;
         }
 
-        long headByPipes() {
-            long pull = -10L * demandNow;
-            long widths = 0;
+        /** A half goes to the even neighbour, as Math.rint does it. */
+        void findTensOfPressure(Whole tens) {
+            tens.setTo(-height);
+            tens.addTimes(head, 1, 0);
+            long rest = tens.divideDown(10);
+            if (rest > 5 || rest == 5 && tens.isOdd()) {
+                tens.increaseBy(1);
+            }
+        }
+
+        void findHeadByPipes(Whole found) {
+            int widths = 0;
+            found.setTo(-10L * demandNow);
             for (int i = 0; i < ends.size(); i++) {
                 End end = ends.get(i);
                 Pipe pipe = end.pipe;
                 if (pipe.pulls()) {
-                    pull += pipe.width * end.headBeyond();
+                    long lift = end.isSecond() ? pipe.lift : -pipe.lift;
+                    found.addTimes(end.nodeBeyond().head, pipe.width, lift * pipe.width);
                     widths += pipe.width;
                 }
             }
-            long balanced = widths == 0 ? height : dividedDown(pull, widths);
-            return Math.max(balanced, height - DEEPEST);
+            if (widths == 0) {
+                found.setTo(height);
+            } else {
+                found.divideDown(widths);
+            }
+            if (found.nearestLong() < height - DEEPEST) {
+                found.setTo(height - DEEPEST);
+            }
         }
 
-        void mixInflow() {
-            long sum = 0;
-            next.setToNothing();
+        void loseByLeak() {
+            leaked.setTo(0);
+            if (!isDry) {
+                leaked.addTimes(head, leak, -height * leak);
+                leaked.divideDown(10);
+            }
+        }
+
+        void mixInflow(Whole all, Whole part) {
+            all.setTo(0);
             for (int i = 0; i < ends.size(); i++) {
                 End end = ends.get(i);
-                long inflow = end.inflow();
-                if (inflow > 0) {
-                    next.addTimes(end.nodeBeyond().mix, inflow);
-                    sum += inflow;
+                if (end.hasInflow()) {
+                    all.addTimes(end.pipe.flowed, end.isSecond() ? 1 : -1, 0);
                 }
             }
-            if (sum > 0) {
-                next.divideBy(sum);
-            } else {
+            if (!all.isAboveZero()) {
                 next.setTo(mix);
+                return;
+            }
+            findInflowOf('a', part);
+            next.age = part.takeOut(all);
+            findInflowOf('c', part);
+            next.chlorine = part.takeOut(all);
+            findInflowOf('f', part);
+            next.dirt = part.takeOut(all);
+        }
+
+        private void findInflowOf(char what, Whole found) {
+            found.setTo(0);
+            for (int i = 0; i < ends.size(); i++) {
+                End end = ends.get(i);
+                if (end.hasInflow()) {
+                    int there = end.nodeBeyond().mix.of(what);
+                    found.addTimes(end.pipe.flowed, end.isSecond() ? there : -there, 0);
+                }
             }
         }
     }
@@ -821,7 +860,7 @@ public final class Valvekeeper {
         Tank ruleTank;
         int lowMark;
         int highMark;
-        long flowed;
+        final Whole flowed = new Whole();
 
         Pipe(Node first, Node second, int width, char kind, int lift) {
             this.first = first;
@@ -844,17 +883,17 @@ public final class Valvekeeper {
             return true;
         }
 
-        long drop() {
-            return first.head + lift - second.head;
-        }
-
         boolean pulls() {
-            return carries && (!isOneWay || drop() > 0);
+            return carries && (!isOneWay || first.head.isGreaterWith(lift, second.head));
         }
 
-        long flowByHeads() {
-            long water = width * drop() / 10;
-            return isOneWay ? Math.max(0, water) : water;
+        void letFlow() {
+            flowed.setTo(0);
+            if (pulls()) {
+                flowed.addTimes(first.head, width, lift * width);
+                flowed.addTimes(second.head, -width, 0);
+                flowed.divideTowardZero(10);
+            }
         }
     }
 
@@ -884,13 +923,8 @@ public final class Valvekeeper {
             return isSecond() ? pipe.first : pipe.second;
         }
 
-        /** What is at the other end of the pipe, as the node at this end sees it. */
-        long headBeyond() {
-            return isSecond() ? pipe.first.head + pipe.lift : pipe.second.head - pipe.lift;
-        }
-
-        long inflow() {
-            return isSecond() ? pipe.flowed : -pipe.flowed;
+        boolean hasInflow() {
+            return isSecond() ? pipe.flowed.isAboveZero() : pipe.flowed.isBelowZero();
         }
 
         boolean canBeShut() {
@@ -923,36 +957,25 @@ public final class Valvekeeper {
     // ---- quality
 
     private static final class Mix {
-        long age;
-        long chlorine;
-        long dirt;
+        int age;
+        int chlorine;
+        int dirt;
 
-        Mix(long chlorine) {
+        Mix(int chlorine) {
             this.chlorine = chlorine;
+        }
+
+        int of(char what) {
+            if (what == 'a') {
+                return age;
+            }
+            return what == 'c' ? chlorine : dirt;
         }
 
         void setTo(Mix other) {
             age = other.age;
             chlorine = other.chlorine;
             dirt = other.dirt;
-        }
-
-        void setToNothing() {
-            age = 0;
-            chlorine = 0;
-            dirt = 0;
-        }
-
-        void addTimes(Mix other, long times) {
-            age += other.age * times;
-            chlorine += other.chlorine * times;
-            dirt += other.dirt * times;
-        }
-
-        void divideBy(long sum) {
-            age = dividedDown(age, sum);
-            chlorine = dividedDown(chlorine, sum);
-            dirt = dividedDown(dirt, sum);
         }
 
         void growOlder() {
@@ -965,32 +988,39 @@ public final class Valvekeeper {
 
     private static final class Meter {
         int pace = WHOLE;
-        long total;
-        long lastCount;
-        long billedUpTo;
-        long lastBill;
-        long secondLastBill;
-        long thirdLastBill;
+        int total;
+        int lastCount;
+        final Whole billedUpTo = new Whole();
+        final Whole lastBill = new Whole();
+        final Whole secondLastBill = new Whole();
+        final Whole thirdLastBill = new Whole();
         int bills;
 
-        void count(long got) {
+        void count(int got) {
             lastCount = got * pace / 100;
             total += lastCount;
         }
 
-        long charge(boolean isRead) {
-            long due = isRead ? total - billedUpTo : guess();
+        void charge(boolean isRead, Whole due) {
+            if (isRead) {
+                due.setTo(total);
+                due.addTimes(billedUpTo, -1, 0);
+            } else {
+                guess(due);
+            }
             // By a guess the reading counts as what makes the guess right.
-            billedUpTo += due;
-            thirdLastBill = secondLastBill;
-            secondLastBill = lastBill;
-            lastBill = due;
+            billedUpTo.addTimes(due, 1, 0);
+            thirdLastBill.setTo(secondLastBill);
+            secondLastBill.setTo(lastBill);
+            lastBill.setTo(due);
             bills = Math.min(bills + 1, 3);
-            return due;
         }
 
-        private long guess() {
-            return dividedDown(lastBill + secondLastBill + thirdLastBill, bills);
+        private void guess(Whole due) {
+            due.setTo(lastBill);
+            due.addTimes(secondLastBill, 1, 0);
+            due.addTimes(thirdLastBill, 1, 0);
+            due.divideDown(bills);
         }
     }
 
@@ -1116,6 +1146,186 @@ public final class Valvekeeper {
                 reached.get(i).isReached = false;
             }
             reached.clear();
+        }
+    }
+
+    // ---- whole numbers
+
+    /**
+     * A whole number without bounds, as water that swings between small tanks grows twentyfold in an hour. It is the
+     * sum of its digits, each times a power of 2 ^ 48. They are 0 or greater but for the last one, which alone tells the
+     * sign, and is neither 0 nor -1 if it is not the only one. 2000 hours come to 190 digits at most.
+     */
+    private static final class Whole {
+        private static final int BITS = 48;
+        private static final long MOST_DIGIT = (1L << BITS) - 1;
+        private static final long MOST_LAST_IN_LONG = (1L << 15) - 1;
+        /** As many bits as round a double right, and room in a long for one more. */
+        private static final long ENOUGH_FOR_DOUBLE = 1L << 60;
+
+        private long[] digits = new long[2];
+        private int length = 1;
+
+        void setTo(long value) {
+            put(0, value & MOST_DIGIT);
+            put(1, value >> BITS);
+            cutTo(2);
+        }
+
+        void setTo(Whole other) {
+            for (int i = 0; i < other.length; i++) {
+                put(i, other.at(i));
+            }
+            length = other.length;
+        }
+
+        void increaseBy(long more) {
+            addTimes(this, 0, more);
+        }
+
+        /** Adds another number some times, at most 1023 or as many below 0, and something more. */
+        void addTimes(Whole other, int times, long more) {
+            int most = Math.max(length, other.length);
+            long carry = more;
+            for (int i = 0; i < most; i++) {
+                carry += at(i) + other.at(i) * times;
+                if (most == 1 && Math.abs(carry) <= MOST_DIGIT) {
+                    // So it is with nearly all numbers, and there is nothing to carry.
+                    put(0, carry);
+                    return;
+                }
+                put(i, carry & MOST_DIGIT);
+                carry >>= BITS;
+            }
+            put(most, carry);
+            cutTo(most + 1);
+        }
+
+        /** Returns the rest; nothing is done by a divisor that is not above 0. */
+        long divideDown(int by) {
+            long rest = 0;
+            if (by <= 0) {
+                return rest;
+            }
+            for (int i = length - 1; i >= 0; i--) {
+                long left = (rest << BITS) + at(i);
+                long digit = Math.floorDiv(left, (long) by);
+                rest = left - digit * by;
+                put(i, digit);
+            }
+            cutTo(length);
+            return rest;
+        }
+
+        void divideTowardZero(int by) {
+            if (isBelowZero()) {
+                addTimes(this, 0, by - 1);
+            }
+            divideDown(by);
+        }
+
+        /** Takes another one, greater than 0, as often as it can be, at most 1023 times; returns how often. */
+        int takeOut(Whole other) {
+            int taken = 0;
+            for (int times = 512; times > 0; times /= 2) {
+                addTimes(other, -times, 0);
+                if (isBelowZero()) {
+                    addTimes(other, times, 0);
+                } else {
+                    taken += times;
+                }
+            }
+            return taken;
+        }
+
+        boolean isBelowZero() {
+            return at(length - 1) < 0;
+        }
+
+        boolean isAboveZero() {
+            return at(length - 1) > 0;
+        }
+
+        boolean isOdd() {
+            return (at(0) & 1) != 0;
+        }
+
+        /** Whether it is greater than another one, if something more is added to it. */
+        boolean isGreaterWith(long more, Whole other) {
+            int most = Math.max(length, other.length);
+            boolean differs = false;
+            long carry = more;
+            for (int i = 0; i < most; i++) {
+                carry += at(i) - other.at(i);
+                differs |= (carry & MOST_DIGIT) != 0;
+                carry >>= BITS;
+            }
+            return carry > 0 || carry == 0 && differs;
+        }
+
+        long nearestLong() {
+            long last = at(length - 1);
+            if (length == 1) {
+                return last;
+            }
+            if (length == 2 && last <= MOST_LAST_IN_LONG && last >= -MOST_LAST_IN_LONG - 1) {
+                return (last << BITS) + at(0);
+            }
+            return last < 0 ? Long.MIN_VALUE : Long.MAX_VALUE;
+        }
+
+        int nearestInt() {
+            return (int) Math.max(Integer.MIN_VALUE, Math.min(nearestLong(), Integer.MAX_VALUE));
+        }
+
+        double nearestDouble() {
+            int left = (length - 1) * BITS;
+            long taken = at(length - 1);
+            while (left > 0 && Math.abs(taken) < ENOUGH_FOR_DOUBLE) {
+                left--;
+                taken = 2 * taken + bit(left);
+            }
+            // One bit stands for all that are left: they can change no more than which way a half is rounded.
+            double value = (double) (hasBitsBelow(left) ? taken | 1 : taken);
+            for (int i = 0; i < left; i++) {
+                value *= 2;
+            }
+            return value;
+        }
+
+        private long bit(int place) {
+            return (at(place / BITS) >> place % BITS) & 1;
+        }
+
+        private boolean hasBitsBelow(int place) {
+            for (int i = 0; i < place; i++) {
+                if (bit(i) != 0) {
+                    return true;
+                }
+            }
+            return false;
+        }
+
+        private long at(int place) {
+            return place >= 0 && place < length && place < digits.length ? digits[place] : 0;
+        }
+
+        private void put(int place, long digit) {
+            if (place >= digits.length) {
+                digits = Arrays.copyOf(digits, 2 * place);
+            }
+            if (place >= 0 && place < digits.length) {
+                digits[place] = digit;
+            }
+        }
+
+        /** A last digit of 0 or -1 goes into the one ahead of it. */
+        private void cutTo(int most) {
+            length = Math.min(most, digits.length);
+            for (int i = length - 1; i > 0 && (digits[i] == 0 || digits[i] == -1); i--) {
+                digits[i - 1] += digits[i] << BITS;
+                length = i;
+            }
         }
     }
 }

@@ -14,6 +14,8 @@ import java.util.List;
 import java.util.Map;
 import java.util.Set;
 import java.util.TreeSet;
+import java.util.regex.Matcher;
+import java.util.regex.Pattern;
 
 /** Holds the face against ../shared/DOC.md, and the source against those rules of LANGUAGE.md that a text shows. */
 public final class LanguageTest {
@@ -27,6 +29,10 @@ public final class LanguageTest {
     private static final int MOST_PARAMETERS = 7;
     private static final int MOST_CLASSES = 12;
     private static final int MOST_FIELDS = 20;
+    private static final int DEEPEST = 8;
+    private static final Pattern HEAD = Pattern.compile("(\\w+)\\s*\\([^()]*\\)\\s*(throws [\\w\\s,]+)?$");
+    private static final Pattern CALL = Pattern.compile("(\\w+)\\s*\\(");
+    private static final Set<String> KEYWORDS = Set.of("if", "for", "while", "switch", "return", "super");
 
     public static void main(String[] args) throws IOException {
         face();
@@ -35,6 +41,7 @@ public final class LanguageTest {
         sizes();
         words();
         lengths();
+        depths();
         classFiles();
         Due.end();
     }
@@ -207,6 +214,67 @@ public final class LanguageTest {
         }
         int left = depth;
         Due.is("all braces are closed", 0, () -> left);
+    }
+
+    /** What each method calls, by names: of methods with the same name all calls count. The library's are there too. */
+    private static Map<String, Set<String>> callsOf() throws IOException {
+        Map<String, Set<String>> calls = new HashMap<>();
+        String text = String.join("\n", code());
+        String name = "";
+        int headFrom = 0;
+        int bodyFrom = 0;
+        int depth = 0;
+        int bodyDepth = 0;
+        for (int i = 0; i < text.length(); i++) {
+            char sign = text.charAt(i);
+            if (sign == '{') {
+                depth++;
+                Matcher head = HEAD.matcher(text.substring(headFrom, i));
+                if (bodyDepth == 0 && head.find()) {
+                    name = head.group(1);
+                    bodyFrom = i;
+                    bodyDepth = depth;
+                }
+            } else if (sign == '}') {
+                if (depth == bodyDepth) {
+                    calls.computeIfAbsent(name, each -> new HashSet<>()).addAll(callsIn(text.substring(bodyFrom, i)));
+                    bodyDepth = 0;
+                }
+                depth--;
+            }
+            headFrom = sign == '{' || sign == '}' || sign == ';' ? i + 1 : headFrom;
+        }
+        return calls;
+    }
+
+    private static Set<String> callsIn(String body) {
+        Set<String> found = new HashSet<>();
+        Matcher call = CALL.matcher(body);
+        while (call.find()) {
+            if (!KEYWORDS.contains(call.group(1))) {
+                found.add(call.group(1));
+            }
+        }
+        return found;
+    }
+
+    private static int depthOf(String name, Map<String, Set<String>> calls, int above) {
+        int deepest = 1;
+        for (String next : calls.getOrDefault(name, Set.of())) {
+            deepest = above > DEEPEST ? DEEPEST + 1 : Math.max(deepest, 1 + depthOf(next, calls, above + 1));
+        }
+        return deepest;
+    }
+
+    private static void depths() throws IOException {
+        Map<String, Set<String>> calls = callsOf();
+        for (Method method : Valvekeeper.class.getMethods()) {
+            if (method.getDeclaringClass() == Valvekeeper.class) {
+                String name = method.getName();
+                Due.is("known: " + name, true, () -> calls.containsKey(name));
+                Due.is("calls below " + name, true, () -> depthOf(name, calls, 1) <= DEEPEST);
+            }
+        }
     }
 
     /** Texts that are joined by +, and lambdas, leave these names in the class files. */

@@ -1,10 +1,14 @@
+import java.math.BigDecimal;
+import java.math.BigInteger;
+import java.math.RoundingMode;
 import java.util.ArrayList;
 import java.util.List;
 import java.util.NoSuchElementException;
 
 /**
  * The document once more, as slow and as plain as it can be written: rows of numbers, whole sums, and sets of
- * valves tried one after another. ModelTest holds the program against it.
+ * valves tried one after another. Its numbers have no bounds; an answer that an int or a long cannot tell is the nearest
+ * that it can. ModelTest holds the program against it.
  */
 public final class Model {
     private static final class Spot {
@@ -12,18 +16,18 @@ public final class Model {
         int height;
         int demand;
         int area;
-        long water;
-        long head;
+        BigInteger water;
+        BigInteger head;
         int leak;
         int pace = 100;
         int district;
         long reading;
-        long lastReading;
-        final List<Long> bills = new ArrayList<>();
+        BigInteger lastReading = BigInteger.ZERO;
+        final List<BigInteger> bills = new ArrayList<>();
         long[] quality = {0, 0, 0};
         boolean dry;
         long got;
-        long leaked;
+        BigInteger leaked = BigInteger.ZERO;
         long counted;
     }
 
@@ -42,7 +46,7 @@ public final class Model {
         int ruleTank = -1;
         int low;
         int high;
-        long flow;
+        BigInteger flow = BigInteger.ZERO;
     }
 
     private final List<Spot> spots = new ArrayList<>();
@@ -53,7 +57,7 @@ public final class Model {
     private int hour;
     private int sweeps;
     private long cost;
-    private long used;
+    private BigInteger used = BigInteger.ZERO;
     private int turned;
 
     public Model() {
@@ -61,6 +65,23 @@ public final class Model {
             percents[i] = 100;
             tariff[i] = 1;
         }
+    }
+
+    private static BigInteger big(long value) {
+        return BigInteger.valueOf(value);
+    }
+
+    private static BigInteger down(BigInteger value, long by) {
+        BigInteger[] both = value.divideAndRemainder(big(by));
+        return both[1].signum() < 0 ? both[0].subtract(BigInteger.ONE) : both[0];
+    }
+
+    private static int nearestInt(BigInteger value) {
+        return value.max(big(Integer.MIN_VALUE)).min(big(Integer.MAX_VALUE)).intValueExact();
+    }
+
+    private static long nearestLong(BigInteger value) {
+        return value.max(big(Long.MIN_VALUE)).min(big(Long.MAX_VALUE)).longValueExact();
     }
 
     private static void range(boolean isIn) {
@@ -94,7 +115,7 @@ public final class Model {
         if (spots.size() == 16) {
             throw new IllegalStateException();
         }
-        spot.head = spot.height;
+        spot.head = big(spot.height);
         spots.add(spot);
         return spots.size() - 1;
     }
@@ -113,7 +134,7 @@ public final class Model {
         spot.isTank = true;
         spot.height = height;
         spot.area = area;
-        spot.water = water;
+        spot.water = big(water);
         spot.quality[1] = 1000;
         return add(spot);
     }
@@ -239,13 +260,13 @@ public final class Model {
         return line.open[0] && line.open[1] && !line.broken && (line.kind != 'p' || line.on);
     }
 
-    private long level(Spot tank) {
-        return Math.floorDiv(tank.water, (long) tank.area);
+    private BigInteger level(Spot tank) {
+        return down(tank.water, tank.area);
     }
 
-    private long headOf(int node) {
+    private BigInteger headOf(int node) {
         Spot spot = spots.get(node);
-        return spot.isTank ? spot.height + level(spot) : spot.head;
+        return spot.isTank ? level(spot).add(big(spot.height)) : spot.head;
     }
 
     private int demandOf(int node) {
@@ -262,9 +283,9 @@ public final class Model {
                 if (spot.isTank) {
                     continue;
                 }
-                long was = spot.head;
+                BigInteger was = spot.head;
                 spot.head = newHead(node, demandOf(node) + (node == hydrant ? more : 0));
-                isCalm &= Math.abs(spot.head - was) <= 1;
+                isCalm &= spot.head.subtract(was).abs().compareTo(BigInteger.ONE) <= 0;
             }
             if (isCalm) {
                 return sweep;
@@ -273,31 +294,40 @@ public final class Model {
         return 60;
     }
 
-    private long newHead(int node, int demand) {
+    private BigInteger difference(Line line) {
+        return headOf(line.first).add(big(line.lift)).subtract(headOf(line.second));
+    }
+
+    private BigInteger newHead(int node, int demand) {
         Spot spot = spots.get(node);
-        long sum = 0;
+        BigInteger sum = big(-10L * demand);
         long widths = 0;
         for (Line line : lines) {
             if (!isOpen(line) || line.first != node && line.second != node) {
                 continue;
             }
-            if (line.kind != '-' && headOf(line.first) + line.lift <= headOf(line.second)) {
+            if (line.kind != '-' && difference(line).signum() <= 0) {
                 continue;
             }
-            long beyond = line.second == node ? headOf(line.first) + line.lift : headOf(line.second) - line.lift;
-            sum += line.width * beyond;
+            BigInteger beyond = line.second == node
+                ? headOf(line.first).add(big(line.lift)) : headOf(line.second).subtract(big(line.lift));
+            sum = sum.add(beyond.multiply(big(line.width)));
             widths += line.width;
         }
         if (widths == 0) {
-            return spot.height;
+            return big(spot.height);
         }
-        return Math.max(spot.height - 100, Math.floorDiv(sum - 10L * demand, widths));
+        return down(sum, widths).max(big(spot.height - 100));
     }
 
-    private long into(int node) {
-        long sum = 0;
+    private BigInteger into(Line line, int node) {
+        return line.second == node ? line.flow : line.first == node ? line.flow.negate() : BigInteger.ZERO;
+    }
+
+    private BigInteger into(int node) {
+        BigInteger sum = BigInteger.ZERO;
         for (Line line : lines) {
-            sum += line.second == node ? line.flow : line.first == node ? -line.flow : 0;
+            sum = sum.add(into(line, node));
         }
         return sum;
     }
@@ -305,17 +335,17 @@ public final class Model {
     private void oneHour() {
         for (Line line : lines) {
             if (line.ruleTank >= 0) {
-                long level = level(spots.get(line.ruleTank));
-                line.on = level < line.low || line.on && level <= line.high;
+                BigInteger level = level(spots.get(line.ruleTank));
+                line.on = level.compareTo(big(line.low)) < 0 || line.on && level.compareTo(big(line.high)) <= 0;
             }
         }
         sweeps = findHeads(-1, 0);
         for (Line line : lines) {
-            line.flow = 0;
+            line.flow = BigInteger.ZERO;
             if (isOpen(line)) {
-                line.flow = line.width * (headOf(line.first) + line.lift - headOf(line.second)) / 10;
-                if (line.kind != '-' && line.flow < 0) {
-                    line.flow = 0;
+                line.flow = difference(line).multiply(big(line.width)).divide(BigInteger.TEN);
+                if (line.kind != '-') {
+                    line.flow = line.flow.max(BigInteger.ZERO);
                 }
             }
             if (line.on) {
@@ -328,18 +358,18 @@ public final class Model {
             if (spot.isTank) {
                 continue;
             }
-            long pressure = spot.head - spot.height;
-            spot.dry = pressure < 0;
+            BigInteger pressure = spot.head.subtract(big(spot.height));
+            spot.dry = pressure.signum() < 0;
             spot.got = spot.dry ? 0 : demandOf(node);
-            spot.leaked = spot.dry ? 0 : spot.leak * pressure / 10;
+            spot.leaked = spot.dry ? BigInteger.ZERO : down(pressure.multiply(big(spot.leak)), 10);
             spot.counted = spot.got * spot.pace / 100;
             spot.reading += spot.counted;
-            used += spot.got + spot.leaked;
+            used = used.add(big(spot.got)).add(spot.leaked);
         }
         for (int node = 0; node < spots.size(); node++) {
             Spot spot = spots.get(node);
             if (spot.isTank) {
-                spot.water = Math.max(0, spot.water + into(node));
+                spot.water = spot.water.add(into(node)).max(BigInteger.ZERO);
             }
         }
         mix();
@@ -357,33 +387,34 @@ public final class Model {
     }
 
     private long[] mixed(int node) {
-        long[] sums = new long[3];
-        long all = 0;
+        BigInteger[] sums = {BigInteger.ZERO, BigInteger.ZERO, BigInteger.ZERO};
+        BigInteger all = BigInteger.ZERO;
         for (Line line : lines) {
-            long in = line.second == node ? line.flow : line.first == node ? -line.flow : 0;
-            if (in > 0) {
+            BigInteger in = into(line, node);
+            if (in.signum() > 0) {
                 Spot from = spots.get(line.second == node ? line.first : line.second);
                 for (int i = 0; i < 3; i++) {
-                    sums[i] += in * from.quality[i];
+                    sums[i] = sums[i].add(in.multiply(big(from.quality[i])));
                 }
-                all += in;
+                all = all.add(in);
             }
         }
+        long[] mixed = new long[3];
         for (int i = 0; i < 3; i++) {
-            sums[i] = all == 0 ? spots.get(node).quality[i] : sums[i] / all;
+            mixed[i] = all.signum() == 0 ? spots.get(node).quality[i] : sums[i].divide(all).longValueExact();
         }
-        sums[0] = Math.min(1000, sums[0] + 1);
-        sums[1] -= sums[1] / 10;
-        return sums;
+        mixed[0] = Math.min(1000, mixed[0] + 1);
+        mixed[1] -= mixed[1] / 10;
+        return mixed;
     }
 
     public int head(int node) {
         spot(node);
-        return (int) headOf(node);
+        return nearestInt(headOf(node));
     }
 
     public int flow(int pipe) {
-        return (int) line(pipe).flow;
+        return nearestInt(line(pipe).flow);
     }
 
     public int sweeps() {
@@ -395,12 +426,12 @@ public final class Model {
     }
 
     public int water(int node) {
-        return (int) spot(node, true).water;
+        return nearestInt(spot(node, true).water);
     }
 
     public int excess(int node) {
         Spot spot = spot(node);
-        return spot.isTank ? 0 : (int) (into(node) - spot.got - spot.leaked);
+        return spot.isTank ? 0 : nearestInt(into(node).subtract(big(spot.got)).subtract(spot.leaked));
     }
 
     public int quality(int node, char what) {
@@ -421,14 +452,14 @@ public final class Model {
         return cost;
     }
 
-    private List<Integer> dryWith(int hydrant, int more, long[] heads) {
+    private List<Integer> dryWith(int hydrant, int more, BigInteger[] heads) {
         for (int node = 0; node < heads.length; node++) {
             spots.get(node).head = heads[node];
         }
         findHeads(hydrant, more);
         List<Integer> dry = new ArrayList<>();
         for (int node = 0; node < heads.length; node++) {
-            if (!spots.get(node).isTank && spots.get(node).head < spots.get(node).height) {
+            if (!spots.get(node).isTank && spots.get(node).head.compareTo(big(spots.get(node).height)) < 0) {
                 dry.add(node);
             }
             spots.get(node).head = heads[node];
@@ -438,7 +469,7 @@ public final class Model {
 
     public int fire(int node) {
         spot(node, false);
-        long[] heads = new long[spots.size()];
+        BigInteger[] heads = new BigInteger[spots.size()];
         for (int i = 0; i < heads.length; i++) {
             heads[i] = spots.get(i).head;
         }
@@ -570,21 +601,19 @@ public final class Model {
 
     public int bill(int node, boolean isRead) {
         Spot spot = spot(node, false);
-        long bill;
+        BigInteger bill = BigInteger.ZERO;
         if (isRead) {
-            bill = spot.reading - spot.lastReading;
-            spot.lastReading = spot.reading;
-        } else {
+            bill = big(spot.reading).subtract(spot.lastReading);
+        } else if (!spot.bills.isEmpty()) {
             int many = Math.min(3, spot.bills.size());
-            long sum = 0;
             for (int i = 1; i <= many; i++) {
-                sum += spot.bills.get(spot.bills.size() - i);
+                bill = bill.add(spot.bills.get(spot.bills.size() - i));
             }
-            bill = many == 0 ? 0 : Math.floorDiv(sum, (long) many);
-            spot.lastReading += bill;
+            bill = down(bill, many);
         }
+        spot.lastReading = spot.lastReading.add(bill);
         spot.bills.add(bill);
-        return (int) bill;
+        return nearestInt(bill);
     }
 
     public int setDistrict(int node, int district) {
@@ -601,25 +630,25 @@ public final class Model {
 
     public int missed(int district) {
         range(district >= 0 && district <= 3);
-        long missed = 0;
+        BigInteger missed = BigInteger.ZERO;
         for (Line line : lines) {
             if (isIn(line.second, district) && !isIn(line.first, district)) {
-                missed += line.flow;
+                missed = missed.add(line.flow);
             }
             if (isIn(line.first, district) && !isIn(line.second, district)) {
-                missed -= line.flow;
+                missed = missed.subtract(line.flow);
             }
         }
         for (int node = 0; node < spots.size(); node++) {
             if (isIn(node, district)) {
-                missed -= spots.get(node).counted;
+                missed = missed.subtract(big(spots.get(node).counted));
             }
         }
-        return (int) missed;
+        return nearestInt(missed);
     }
 
     public long used() {
-        return used;
+        return nearestLong(used);
     }
 
     private int junctions() {
@@ -642,11 +671,14 @@ public final class Model {
     }
 
     public double meanPressure() {
-        double sum = 0;
+        BigInteger sum = BigInteger.ZERO;
         for (Spot spot : spots) {
-            sum += spot.isTank ? 0 : Math.rint((spot.head - spot.height) / 10.0);
+            if (!spot.isTank) {
+                BigDecimal tenth = new BigDecimal(spot.head.subtract(big(spot.height))).movePointLeft(1);
+                sum = sum.add(tenth.setScale(0, RoundingMode.HALF_EVEN).toBigIntegerExact());
+            }
         }
-        return sum / junctions();
+        return sum.doubleValue() / junctions();
     }
 
     /** True by what set(pipe) does: no smaller one is found, and the pipe is shut off by it. */

@@ -25,6 +25,8 @@ public final class ModelTest {
     private final int valvePercent;
     /** A long run comes to its last hour, 2000. */
     private final boolean isLong;
+    /** In a wild run water swings between small tanks by wide pipes, more and more of it, beyond int and long. */
+    private final boolean isWild;
     private final Valvekeeper ours = new Valvekeeper();
     private final Model theirs = new Model();
     private final List<String> told = new ArrayList<>();
@@ -35,6 +37,7 @@ public final class ModelTest {
         random = new Random(seed);
         valvePercent = 30 + random.nextInt(60);
         isLong = seed % 10 == 9;
+        isWild = seed % 10 == 4 || seed % 40 == 9;
     }
 
     private static Map<String, Method> methods(Class<?> of) {
@@ -107,8 +110,8 @@ public final class ModelTest {
 
     private void addNode() {
         Object added;
-        if (random.nextInt(4) == 0) {
-            added = call("tank", number(0, 200), number(1, 50), number(0, either() ? 9999 : 600));
+        if (random.nextInt(isWild ? 2 : 4) == 0) {
+            added = call("tank", number(0, 200), number(1, isWild ? 3 : 50), number(0, either() ? 9999 : 600));
         } else {
             added = call("junction", number(0, either() ? 200 : 60), number(0, either() ? 99 : 9));
         }
@@ -126,7 +129,7 @@ public final class ModelTest {
         if (random.nextInt(50) == 0) {
             kind = (char) random.nextInt(256);
         }
-        if (call("pipe", node(), node(), number(1, 9), kind, number(1, 99), valves) instanceof Integer) {
+        if (call("pipe", node(), node(), number(isWild ? 6 : 1, 9), kind, number(1, 99), valves) instanceof Integer) {
             pipes++;
         }
     }
@@ -170,7 +173,7 @@ public final class ModelTest {
         }
         while (told.size() < CALLS) {
             int draw = random.nextInt(100);
-            if (isLong && random.nextInt(4) == 0) {
+            if ((isLong || isWild) && random.nextInt(4) == 0) {
                 callOne("pass");
             } else if (draw < 2) {
                 addNode();
