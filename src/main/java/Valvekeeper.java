@@ -412,7 +412,7 @@ public final class Valvekeeper {
             junctions.get(i).findTensOfPressure(part);
             sum.addTimes(part, 1, 0);
         }
-        return sum.nearestDouble() / (double) junctions.size();
+        return sum.takeMean(junctions.size());
     }
 
     /** Checks that each set to shut shuts its pipe off, and that none of its valves can be spared. */
@@ -1162,6 +1162,7 @@ public final class Valvekeeper {
         private static final long MOST_LAST_IN_LONG = (1L << 15) - 1;
         /** As many bits as round a double right, and room in a long for one more. */
         private static final long ENOUGH_FOR_DOUBLE = 1L << 60;
+        private static final int MORE_BITS = 96;
 
         private long[] digits = new long[2];
         private int length = 1;
@@ -1278,19 +1279,31 @@ public final class Valvekeeper {
             return (int) Math.max(Integer.MIN_VALUE, Math.min(nearestLong(), Integer.MAX_VALUE));
         }
 
-        double nearestDouble() {
+        /** Returns the double that is nearest to the quotient; what is left of the number is of no use any more. */
+        double takeMean(int by) {
+            if (length == 1) {
+                return (double) at(0) / (double) by;
+            }
+            // More bits first, so that those of the quotient are enough to round it right.
+            for (int i = 0; i < MORE_BITS; i++) {
+                addTimes(this, 1, 0);
+            }
+            boolean hasMore = divideDown(by) != 0;
             int left = (length - 1) * BITS;
             long taken = at(length - 1);
             while (left > 0 && Math.abs(taken) < ENOUGH_FOR_DOUBLE) {
                 left--;
                 taken = 2 * taken + bit(left);
             }
-            // One bit stands for all that are left: they can change no more than which way a half is rounded.
-            double value = (double) (hasBitsBelow(left) ? taken | 1 : taken);
-            for (int i = 0; i < left; i++) {
-                value *= 2;
+            // One bit stands for all that is left: that can change no more than which way a half is rounded.
+            double mean = (double) (hasMore || hasBitsBelow(left) ? taken | 1 : taken);
+            for (int i = MORE_BITS; i < left; i++) {
+                mean *= 2;
             }
-            return value;
+            for (int i = left; i < MORE_BITS; i++) {
+                mean /= 2;
+            }
+            return mean;
         }
 
         private long bit(int place) {

@@ -1,5 +1,6 @@
 import java.math.BigDecimal;
 import java.math.BigInteger;
+import java.math.MathContext;
 import java.math.RoundingMode;
 import java.util.ArrayList;
 import java.util.List;
@@ -678,7 +679,7 @@ public final class Model {
                 sum = sum.add(tenth.setScale(0, RoundingMode.HALF_EVEN).toBigIntegerExact());
             }
         }
-        return sum.doubleValue() / junctions();
+        return new BigDecimal(sum).divide(new BigDecimal(junctions()), new MathContext(4000)).doubleValue();
     }
 
     /** True by what set(pipe) does: no smaller one is found, and the pipe is shut off by it. */

@@ -120,6 +120,17 @@ public final class ModelTest {
         }
     }
 
+    private void addSwing() {
+        for (int i = 0; i < 2; i++) {
+            call("tank", random.nextInt(9), 1, 500 * i);
+            nodes++;
+        }
+        for (int i = 0; i < 4; i++) {
+            call("pipe", 0, 1, 8, '-', 0, 0);
+            pipes++;
+        }
+    }
+
     private void addPipe() {
         int valves = (random.nextInt(100) < valvePercent ? 1 : 0) + (random.nextInt(100) < valvePercent ? 2 : 0);
         if (random.nextInt(20) == 0) {
@@ -165,6 +176,9 @@ public final class ModelTest {
     private void run() {
         int startNodes = 2 + random.nextInt(9);
         int startPipes = 1 + random.nextInt(20);
+        if (isWild) {
+            addSwing();
+        }
         for (int i = 0; i < startNodes; i++) {
             addNode();
         }

@@ -180,6 +180,29 @@ public final class SwingTest {
         Due.is("nothing was counted since", 0, () -> x.bill(1, true));
     }
 
+    /** The mean of 14 like pressures is that of one, also where a double tells it, but not the sum of all. */
+    private static void meanPressures() {
+        Valvekeeper one = swing();
+        Valvekeeper all = swing();
+        for (int i = 0; i < 14; i++) {
+            all.junction(0, 0);
+            all.pipe(0, 2 + i, 9, '-', 0, 0);
+        }
+        one.junction(0, 0);
+        one.pipe(0, 2, 9, '-', 0, 0);
+        double greatest = 0;
+        for (int hour = 1; hour <= 600; hour++) {
+            one.pass(1);
+            all.pass(1);
+            double mean = one.meanPressure();
+            greatest = mean < Double.POSITIVE_INFINITY ? Math.max(greatest, mean) : greatest;
+            Due.is("mean in " + hour, mean, all::meanPressure);
+            Due.is("not 0 in odd hours, in " + hour, hour % 2 == 0, () -> mean == 0);
+        }
+        double last = greatest;
+        Due.is("14 times the last one is beyond double, " + last, true, () -> 14 * last > Double.MAX_VALUE);
+    }
+
     public static void main(String[] args) {
         headsOfEvenHours();
         whoIsDry();
@@ -188,6 +211,7 @@ public final class SwingTest {
         mixed();
         beyondInt();
         billsBeyondInt();
+        meanPressures();
         Due.end();
     }
 }

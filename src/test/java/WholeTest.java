@@ -1,7 +1,9 @@
 import java.lang.reflect.Constructor;
 import java.lang.reflect.Field;
 import java.lang.reflect.Method;
+import java.math.BigDecimal;
 import java.math.BigInteger;
+import java.math.MathContext;
 import java.util.Arrays;
 import java.util.Random;
 
@@ -11,21 +13,22 @@ import java.util.Random;
  */
 public final class WholeTest {
     private static final Class<?> WHOLE = whole();
-    private static final int ROUNDS = 4000;
+    private static final int ROUNDS = 2000;
     private static final int STEPS = 40;
+    private static final int SPARE = 3;
     private static final int[] POWERS = {0, 1, 8, 31, 32, 47, 48, 49, 62, 63, 64, 95, 96, 97, 144, 500};
     private static int steps;
 
     private final Random random;
-    private final Object[] ours = new Object[3];
+    private final Object[] ours = new Object[4];
     private final BigInteger[] due = new BigInteger[3];
 
     private WholeTest(long seed) {
         random = new Random(seed);
         for (int i = 0; i < ours.length; i++) {
             ours[i] = made();
-            due[i] = BigInteger.ZERO;
         }
+        Arrays.fill(due, BigInteger.ZERO);
     }
 
     private static Class<?> whole() {
@@ -176,7 +179,10 @@ public final class WholeTest {
         need(call(whole, "nearestInt").equals(
             value.max(BigInteger.valueOf(Integer.MIN_VALUE)).min(BigInteger.valueOf(Integer.MAX_VALUE)).intValueExact()),
             told + ": the nearest int");
-        need(call(whole, "nearestDouble").equals(value.doubleValue()), told + ": the nearest double");
+        int by = 1 + random.nextInt(16);
+        double mean = new BigDecimal(value).divide(new BigDecimal(by), new MathContext(400)).doubleValue();
+        call(ours[SPARE], "setTo", whole);
+        need(call(ours[SPARE], "takeMean", by).equals(mean), told + ": its quotient by " + by);
     }
 
     private void compare(int a, int b, long more) {
