@@ -679,7 +679,7 @@ public final class Model {
                 sum = sum.add(tenth.setScale(0, RoundingMode.HALF_EVEN).toBigIntegerExact());
             }
         }
-        return new BigDecimal(sum).divide(new BigDecimal(junctions()), new MathContext(4000)).doubleValue();
+        return new BigDecimal(sum).divide(new BigDecimal(junctions()), new MathContext(400)).doubleValue();
     }
 
     /** True by what set(pipe) does: no smaller one is found, and the pipe is shut off by it. */
